@@ -496,6 +496,7 @@ public final class PromiseTests {
         is(holeIn("<a h=\"", "", "\">"), "<a h=\"\">");
         is(holeIn("<s>", "a<b>&\" c", "</s>"), "<s>\"a\\lb>&\\q c\"</s>");
         is(holeIn("<s>", "", "</s>"), "<s>\"\"</s>");
+        holeInMuch();
         Weftpage y = new Weftpage();
         setText(y, 0, "j:aq");
         int upper = y.hole(y.filter('u', y.field(0), 0));
@@ -510,6 +511,23 @@ public final class PromiseTests {
         thrown(INDEX, () -> y.hole(y.nodes()));
         thrown(INDEX, () -> full().hole(100));
         thrown(STATE, () -> full().hole(1));
+    }
+
+    /** Outputs that are longer than any other's. */
+    private static void holeInMuch() {
+        Weftpage x = new Weftpage();
+        x.setList(0);
+        for (int i = 0; i < 8; i++) {
+            add(x, 0, i, 0, "########################");
+        }
+        int hole = x.hole(x.item('t'));
+        int loop = x.loop(x.field(0), x.loop(x.field(0), rows(x, hole, hole, hole), -1), -1);
+        String coded = "%34".repeat(24 * 3 * 64);
+        is(made(x, rows(x, piece(x, "<a h=\""), loop, piece(x, "\">"))), "<a h=\"" + coded + "\">");
+        is(x.refresh(), 'o');
+        is(x.isSound(), true);
+        int p = piece(x, "abcdefghijklmnopqrstuvwx");
+        is(made(x, x.loop(x.field(0), rows(x, p, p, p), -1)), "abcdefghijklmnopqrstuvwx".repeat(24));
     }
 
     private static void promise20() {
@@ -573,6 +591,7 @@ public final class PromiseTests {
         x.addItem(0, 1, 1);
         x.addItem(0, 2, 1);
         is(made2(x, t) + made2(x, u), "iiii");
+        is(made(x, x.row(x.loop(f, body, none), x.loop(x.field(1), body, none))), "iio");
         x.setNumber(0, 0);
         is(made2(x, t), "fault t");
         x.setText(0);
@@ -645,11 +664,13 @@ public final class PromiseTests {
         x.override(e, 3, x.hole(x.item('k')));
         is(made2(x, e), "8");
         is(made2(x, t), "p");
+        x.addItem(0, 9, 0);
+        is(made2(x, e), "89");
         int callsT = x.partial(t, -1, -1);
         int base = x.template(x.row(block, callsT));
         int e2 = x.extend(base);
         x.override(e2, 3, piece(x, "q"));
-        is(made2(x, e2), "qp");
+        is(made2(x, e2), "qpp");
         thrown(ARGUMENT, () -> x.block(4, 99));
         thrown(ARGUMENT, () -> x.block(-1, p));
         thrown(INDEX, () -> x.block(0, f));
@@ -680,7 +701,24 @@ public final class PromiseTests {
         int slot = x.template(x.slot());
         x.override(three, 0, x.partial(slot, -1, x.row(piece(x, "f"), up)));
         is(made2(x, three), "faodcbaodc");
+        upInLoops();
         thrown(STATE, () -> full().up());
+    }
+
+    private static void upInLoops() {
+        Weftpage x = new Weftpage();
+        int up = x.up();
+        int ups = x.template(up);
+        int block = x.block(2, piece(x, "o"));
+        int base = x.template(x.row(block, x.partial(ups, -1, -1)));
+        int e = x.extend(base);
+        x.setList(0);
+        x.addItem(0, 1, 0);
+        x.addItem(0, 2, 0);
+        x.override(e, 2, x.loop(x.field(0), x.row(x.hole(x.item('k')), up), -1));
+        is(made2(x, e), "1o2o");
+        x.override(e, 2, x.row(x.partial(ups, -1, -1), piece(x, "a")));
+        is(made2(x, e), "a");
     }
 
     private static void promise27() {
@@ -697,6 +735,14 @@ public final class PromiseTests {
         x.setNumber(0, 1);
         int loop = x.loop(x.field(0), a, b);
         is(made(x, x.guard(loop, x.loop(x.field(1), a, b))), "b");
+        setText(x, 0, "<");
+        int open = rows(x, a, piece(x, "<a b=\""), bad, piece(x, "\">"));
+        int held = hole(x, 0);
+        is(made(x, x.guard(open, held)), "&l");
+        is(x.writerOf(0), held);
+        setText(x, 0, ">");
+        is(patch(x), "r" + held);
+        is(text(x), "&g");
         int v = x.number(1);
         thrown(INDEX, () -> x.guard(a, v));
         thrown(INDEX, () -> x.guard(v, a));
@@ -807,12 +853,37 @@ public final class PromiseTests {
         is(checkedText("< s>"), "e0");
         is(checkedText("<a h=\">\">"), "o");
         is(checkedText("<a \">"), "e0");
+        is(checkedText("<s><a/s>"), "e0");
+        is(checkedText("<s></z>"), "o");
+        is(checkedText("<ss>"), "e0");
+        is(checkedText("<as>"), "o");
+        checkAlike();
         checkBranches();
         checkRound();
+        checkRoundOfFirst();
         checkCount();
         Weftpage x = new Weftpage();
         thrown(INDEX, () -> x.check(0));
         thrown(INDEX, () -> x.check(-1));
+    }
+
+    private static boolean areAlike(String one, String two) {
+        Weftpage x = new Weftpage();
+        return x.check(x.template(x.choice(x.number(1), piece(x, one), piece(x, two)))) != 'b';
+    }
+
+    private static void checkAlike() {
+        String[][] alike = {{"", "<a>"}, {"<a ", "<ab "}, {"<a ", "<a&"}, {"<a ", "<a/"}, {"<a b=\"\"", "<a "}, {"<a h=\"\"", "<a "},
+            {"<a=", "<a"}, {"</", "<s></"}, {"</", "</ "}, {"</a", "<s></ a"}, {"<s>", "<s>a"}, {"<s><", "<s>a<<"}, {"<s><a", "<s>"},
+            {"<a b=\"", "<ac=\"x"}, {"<a h=\"", "<ah\""}, {"<z", "<zz"}, {"<", "< "}, {"<:", "<="}, {"<\"\"a", "<a"}, {"<a=\"<", "<a\"&"}};
+        String[][] other = {{"<a", "<ab"}, {"<a", "<a "}, {"<a ", "<b "}, {"<a ", "</ "}, {"<s>", "<s><"}, {"<a b=\"", "<a h=\""},
+            {"<a b=\"", "<b b=\""}, {"<a h=\"", "<b h=\""}, {"<", ""}, {"<z ", "<y "}, {"<s>", "<a>"}, {"<s>", "</s>"}, {"<\"", "<a\""}};
+        for (String[] pair : alike) {
+            is(areAlike(pair[0], pair[1]) + pair[0] + pair[1], "true" + pair[0] + pair[1]);
+        }
+        for (String[] pair : other) {
+            is(areAlike(pair[0], pair[1]) + pair[0] + pair[1], "false" + pair[0] + pair[1]);
+        }
     }
 
     private static void checkBranches() {
@@ -883,6 +954,14 @@ public final class PromiseTests {
         is(checked(x, two), "r" + block);
     }
 
+    private static void checkRoundOfFirst() {
+        Weftpage x = new Weftpage();
+        x.template(x.slot());
+        int inner = x.partial(0, -1, x.piece());
+        is(checked(x, x.template(x.partial(0, -1, inner))), "r" + inner);
+        is(checked(x, x.template(inner)), "o");
+    }
+
     private static int doubled(Weftpage x, int node, int times) {
         int row = node;
         for (int i = 0; i < times; i++) {
@@ -942,6 +1021,8 @@ public final class PromiseTests {
 
     private static void promise35() {
         promise = 35;
+        Weftpage z = new Weftpage();
+        is(z.around(z.template(piece(z, "a")), 0), 't');
         Weftpage x = new Weftpage();
         int v = x.field(0);
         int hole = x.hole(v);
@@ -992,6 +1073,8 @@ public final class PromiseTests {
         int u = x.template(x.partial(outer, f, -1));
         is(x.readers(u, 0), 2);
         is(x.readers(u, 1), 0);
+        int blocked = x.template(x.block(0, x.hole(x.argument())));
+        is(x.readers(x.template(x.partial(blocked, f, -1)), 0), 1);
         int tag = piece(x, "<a");
         int wrongFirst = x.template(rows(x, hole, tag, x.hole(f), x.hole(f)));
         is(x.readers(wrongFirst, 0), 2);
@@ -1091,7 +1174,8 @@ public final class PromiseTests {
         int a = piece(x, "a");
         int h = x.hole(f1);
         int choice = x.choice(f0, x.row(a, h), h);
-        int guard = x.guard(x.hole(x.filter('p', f0, 0)), h);
+        int plural = x.hole(x.filter('p', f0, 0));
+        int guard = x.guard(plural, h);
         int loop = x.loop(x.field(2), a, h);
         int later = x.later(1, h);
         x.make(x.template(rows(x, choice, guard, loop, later)));
@@ -1107,8 +1191,21 @@ public final class PromiseTests {
         x.addItem(2, 0, 0);
         x.setNumber(1, 3);
         is(patch(x), "r" + h + " r" + loop + " r" + h);
-        x.clear(2);
-        is(patch(x), "r" + loop);
+        for (int i = 0; i < 4; i++) {
+            x.clear(2);
+            is(patch(x), "r" + loop);
+            x.clear(2);
+            is(patch(x), "");
+            x.setList(2);
+            x.addItem(2, 0, 0);
+            is(patch(x), "r" + loop);
+            x.setNumber(0, i % 2);
+            is(patch(x), i % 2 == 0 ? "r" + choice + " r" + plural : "");
+            x.clear(0);
+            is(patch(x), (i % 2 == 0 ? "" : "r" + choice + " ") + "r" + guard);
+            x.setNumber(0, 1);
+            is(patch(x), "r" + choice + " r" + guard);
+        }
     }
 
     private static void order(Weftpage x, String keys) {
@@ -1336,6 +1433,10 @@ public final class PromiseTests {
         promise = 51;
         is(new Weftpage().isSound(), true);
         Weftpage x = shown();
+        is(x.isSound(), true);
+        x.refresh();
+        x.setNumber(0, 7);
+        x.make(0);
         is(x.isSound(), true);
         setText(x, 0, "<\"&");
         x.refresh();
