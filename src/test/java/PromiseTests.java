@@ -1,129 +1,9 @@
-import java.util.NoSuchElementException;
-
 /** At least one test for each promise: ordinary inputs, the edges that the document names, wrong inputs. */
-public final class PromiseTests {
-    private static final Class<?> INDEX = IndexOutOfBoundsException.class;
-    private static final Class<?> ARGUMENT = IllegalArgumentException.class;
-    private static final Class<?> STATE = IllegalStateException.class;
-    private static final Class<?> UNSUPPORTED = UnsupportedOperationException.class;
-    private static final Class<?> ELEMENT = NoSuchElementException.class;
-    private static final Class<?> ARITHMETIC = ArithmeticException.class;
-
-    private static int passed;
-    private static int failed;
-    private static int promise;
-
-    interface Call {
-        Object run();
-    }
-
-    private static void is(Object got, Object want) {
-        if (got.equals(want)) {
-            passed++;
-            return;
-        }
-        failed++;
-        System.out.println("promise " + promise + ", " + place() + ": answered " + got + ", due is " + want);
-    }
-
-    private static String place() {
-        for (StackTraceElement e : new Throwable().getStackTrace()) {
-            if (!e.getMethodName().equals("place") && !e.getMethodName().equals("is") && !e.getMethodName().equals("thrown")) {
-                return e.getMethodName() + " line " + e.getLineNumber();
-            }
-        }
-        return "";
-    }
-
-    private static void thrown(Class<?> want, Call call) {
-        Object got;
-        try {
-            got = call.run();
-        } catch (RuntimeException e) {
-            boolean own = e.getStackTrace()[0].getClassName().startsWith("Weftpage");
-            got = own ? e.getClass() : "an exception of the library";
-        }
-        is(got, want);
-    }
-
-    // Helpers that make what the tests need
-
-    private static void type(Weftpage x, String text) {
-        for (char c : text.toCharArray()) {
-            x.type(c);
-        }
-    }
-
-    private static int piece(Weftpage x, String text) {
-        type(x, text);
-        return x.piece();
-    }
-
-    private static void setText(Weftpage x, int field, String text) {
-        type(x, text);
-        x.setText(field);
-    }
-
-    private static int add(Weftpage x, int field, int key, int number, String text) {
-        type(x, text);
-        return x.addItem(field, key, number);
-    }
-
-    private static int rows(Weftpage x, int... parts) {
-        int row = parts[0];
-        for (int i = 1; i < parts.length; i++) {
-            row = x.row(row, parts[i]);
-        }
-        return row;
-    }
-
-    private static int hole(Weftpage x, int field) {
-        return x.hole(x.field(field));
-    }
-
-    private static String text(Weftpage x) {
-        StringBuilder b = new StringBuilder();
-        for (int i = 0; i < x.length(); i++) {
-            b.append(x.letterAt(i));
-        }
-        return b.toString();
-    }
-
-    private static String made(Weftpage x, int node) {
-        int t = x.template(node);
-        return made2(x, t);
-    }
-
-    private static String made2(Weftpage x, int template) {
-        char answer = x.make(template);
-        return answer == 'o' ? text(x) : "fault " + x.fault();
-    }
-
-    private static String patch(Weftpage x) {
-        char answer = x.refresh();
-        if (answer != 'o') {
-            return "fault " + x.fault();
-        }
-        StringBuilder b = new StringBuilder();
-        for (int i = 0; i < x.changes(); i++) {
-            b.append(i == 0 ? "" : " ").append(x.changeAt(i)).append(x.changedNode(i));
-            if (x.changeAt(i) != 'r') {
-                b.append(',').append(x.changedKey(i));
-            }
-        }
-        is(x.isSound(), true);
-        return b.toString();
-    }
-
-    private static String checked(Weftpage x, int template) {
-        char answer = x.check(template);
-        return answer == 'o' ? "o" : "" + answer + x.wrong(template);
-    }
-
+public final class PromiseTests extends Checks {
     // Data
 
     private static void promise1() {
-        promise = 1;
+        about = "promise 1";
         Weftpage x = new Weftpage();
         is(x.nodes(), 0);
         for (int f = 0; f < 6; f++) {
@@ -139,7 +19,7 @@ public final class PromiseTests {
     }
 
     private static void promise2() {
-        promise = 2;
+        about = "promise 2";
         Weftpage x = new Weftpage();
         String letters = "abcdefghijklmnopqrstuvwxyz <>/=\"&:#";
         for (int c = 0; c < 300; c++) {
@@ -161,7 +41,7 @@ public final class PromiseTests {
     }
 
     private static void promise3() {
-        promise = 3;
+        about = "promise 3";
         Weftpage x = new Weftpage();
         is(x.setNumber(0, -999), '-');
         is(x.setNumber(0, 999), 'n');
@@ -178,7 +58,7 @@ public final class PromiseTests {
     }
 
     private static void promise4() {
-        promise = 4;
+        about = "promise 4";
         Weftpage x = new Weftpage();
         type(x, "ab");
         is(x.setText(5), '-');
@@ -198,7 +78,7 @@ public final class PromiseTests {
     }
 
     private static void promise5() {
-        promise = 5;
+        about = "promise 5";
         Weftpage x = new Weftpage();
         is(x.setList(0), '-');
         x.addItem(0, 1, 1);
@@ -213,7 +93,7 @@ public final class PromiseTests {
     }
 
     private static void promise6() {
-        promise = 6;
+        about = "promise 6";
         Weftpage x = new Weftpage();
         is(x.clear(0), '-');
         x.setNumber(0, 1);
@@ -229,7 +109,7 @@ public final class PromiseTests {
     }
 
     private static void promise7() {
-        promise = 7;
+        about = "promise 7";
         Weftpage x = new Weftpage();
         x.setNumber(1, 0);
         x.setText(2);
@@ -240,7 +120,7 @@ public final class PromiseTests {
     }
 
     private static void promise8() {
-        promise = 8;
+        about = "promise 8";
         Weftpage x = new Weftpage();
         thrown(UNSUPPORTED, () -> x.addItem(0, 0, 0));
         x.setList(0);
@@ -262,7 +142,7 @@ public final class PromiseTests {
     }
 
     private static void promise9() {
-        promise = 9;
+        about = "promise 9";
         Weftpage x = new Weftpage();
         thrown(INDEX, () -> x.setItem(6, 0, 1000));
         thrown(ARGUMENT, () -> x.setItem(0, 0, 1000));
@@ -280,7 +160,7 @@ public final class PromiseTests {
     }
 
     private static void promise10() {
-        promise = 10;
+        about = "promise 10";
         Weftpage x = new Weftpage();
         thrown(INDEX, () -> x.takeItem(-1, 0));
         thrown(UNSUPPORTED, () -> x.takeItem(0, 0));
@@ -298,7 +178,7 @@ public final class PromiseTests {
     }
 
     private static void promise11() {
-        promise = 11;
+        about = "promise 11";
         Weftpage x = new Weftpage();
         thrown(INDEX, () -> x.moveItem(6, 0, 0));
         thrown(UNSUPPORTED, () -> x.moveItem(0, 0, 0));
@@ -322,7 +202,7 @@ public final class PromiseTests {
     }
 
     private static void promise12() {
-        promise = 12;
+        about = "promise 12";
         Weftpage x = new Weftpage();
         thrown(INDEX, () -> x.items(6));
         thrown(UNSUPPORTED, () -> x.items(0));
@@ -346,7 +226,7 @@ public final class PromiseTests {
     }
 
     private static void promise13() {
-        promise = 13;
+        about = "promise 13";
         Weftpage x = new Weftpage();
         is(x.field(0), 0);
         is(x.field(5), 1);
@@ -359,7 +239,7 @@ public final class PromiseTests {
     }
 
     private static void promise14() {
-        promise = 14;
+        about = "promise 14";
         Weftpage x = new Weftpage();
         x.setList(0);
         add(x, 0, 70, 5, "a");
@@ -379,7 +259,7 @@ public final class PromiseTests {
     }
 
     private static void promise15() {
-        promise = 15;
+        about = "promise 15";
         Weftpage x = new Weftpage();
         int hole = x.hole(x.argument());
         int t = x.template(hole);
@@ -394,7 +274,7 @@ public final class PromiseTests {
     }
 
     private static void promise16() {
-        promise = 16;
+        about = "promise 16";
         Weftpage x = new Weftpage();
         is(x.number(-999), 0);
         is(x.number(999), 1);
@@ -411,7 +291,7 @@ public final class PromiseTests {
     }
 
     private static void promise17() {
-        promise = 17;
+        about = "promise 17";
         String kinds = "lucd+p";
         String[] nothing = {"fault t", "fault t", "fault t", "7", "fault t", "fault t"};
         String[] number = {"fault t", "fault t", "fault t", "2", "9", "s"};
@@ -468,7 +348,7 @@ public final class PromiseTests {
     }
 
     private static void promise18() {
-        promise = 18;
+        about = "promise 18";
         Weftpage x = new Weftpage();
         is(piece(x, "a<b>"), 0);
         is(x.piece(), 1);
@@ -486,7 +366,7 @@ public final class PromiseTests {
     }
 
     private static void promise19() {
-        promise = 19;
+        about = "promise 19";
         is(holeIn("", "a<b>&\" c", ""), "a&lb&g&a\" c");
         is(holeIn("<a c=\"", "a<b>&\" c", "\">"), "<a c=\"a&lb&g&a&q c\">");
         is(holeIn("<a h=\"", "a<b>&\" =#:/z", "\">"), "<a h=\"a%27b%28%32%31%26%30%34:/z\">");
@@ -523,15 +403,18 @@ public final class PromiseTests {
         int hole = x.hole(x.item('t'));
         int loop = x.loop(x.field(0), x.loop(x.field(0), rows(x, hole, hole, hole), -1), -1);
         String coded = "%34".repeat(24 * 3 * 64);
-        is(made(x, rows(x, piece(x, "<a h=\""), loop, piece(x, "\">"))), "<a h=\"" + coded + "\">");
+        is(x.make(x.template(rows(x, piece(x, "<a h=\""), loop, piece(x, "\">")))), 'o');
+        is(ends(x), ends("<a h=\"" + coded + "\">"));
         is(x.refresh(), 'o');
+        is(ends(x), ends("<a h=\"" + coded + "\">"));
         is(x.isSound(), true);
         int p = piece(x, "abcdefghijklmnopqrstuvwx");
-        is(made(x, x.loop(x.field(0), rows(x, p, p, p), -1)), "abcdefghijklmnopqrstuvwx".repeat(24));
+        is(x.make(x.template(x.loop(x.field(0), rows(x, p, p, p), -1))), 'o');
+        is(ends(x), ends("abcdefghijklmnopqrstuvwx".repeat(24)));
     }
 
     private static void promise20() {
-        promise = 20;
+        about = "promise 20";
         Weftpage x = new Weftpage();
         int a = piece(x, "a");
         int b = piece(x, "b");
@@ -547,7 +430,7 @@ public final class PromiseTests {
     }
 
     private static void promise21() {
-        promise = 21;
+        about = "promise 21";
         Weftpage x = new Weftpage();
         int f = x.field(0);
         int yes = piece(x, "y");
@@ -578,7 +461,7 @@ public final class PromiseTests {
     }
 
     private static void promise22() {
-        promise = 22;
+        about = "promise 22";
         Weftpage x = new Weftpage();
         int f = x.field(0);
         int body = piece(x, "i");
@@ -606,7 +489,7 @@ public final class PromiseTests {
     }
 
     private static void promise23() {
-        promise = 23;
+        about = "promise 23";
         Weftpage x = new Weftpage();
         int f = x.field(0);
         int list = x.template(x.loop(x.argument(), x.hole(x.item('k')), -1));
@@ -632,7 +515,7 @@ public final class PromiseTests {
     }
 
     private static void promise24() {
-        promise = 24;
+        about = "promise 24";
         Weftpage x = new Weftpage();
         int slot = x.slot();
         is(made(x, slot), "");
@@ -651,7 +534,7 @@ public final class PromiseTests {
     }
 
     private static void promise25() {
-        promise = 25;
+        about = "promise 25";
         Weftpage x = new Weftpage();
         int f = x.field(0);
         int p = piece(x, "p");
@@ -680,7 +563,7 @@ public final class PromiseTests {
     }
 
     private static void promise26() {
-        promise = 26;
+        about = "promise 26";
         Weftpage x = new Weftpage();
         int up = x.up();
         is(made(x, up), "");
@@ -722,7 +605,7 @@ public final class PromiseTests {
     }
 
     private static void promise27() {
-        promise = 27;
+        about = "promise 27";
         Weftpage x = new Weftpage();
         int bad = x.hole(x.argument());
         int a = piece(x, "a");
@@ -752,7 +635,7 @@ public final class PromiseTests {
     }
 
     private static void promise28() {
-        promise = 28;
+        about = "promise 28";
         Weftpage x = new Weftpage();
         int p = piece(x, "p");
         int t = x.template(x.row(x.later(3, p), x.later(0, x.hole(x.argument()))));
@@ -771,7 +654,7 @@ public final class PromiseTests {
     }
 
     private static void promise29() {
-        promise = 29;
+        about = "promise 29";
         Weftpage x = new Weftpage();
         is(x.nodes(), 0);
         x.piece();
@@ -785,7 +668,7 @@ public final class PromiseTests {
     // Templates
 
     private static void promise30() {
-        promise = 30;
+        about = "promise 30";
         Weftpage x = new Weftpage();
         x.piece();
         x.number(1);
@@ -799,7 +682,7 @@ public final class PromiseTests {
     }
 
     private static void promise31() {
-        promise = 31;
+        about = "promise 31";
         Weftpage x = new Weftpage();
         thrown(INDEX, () -> x.extend(0));
         x.template(piece(x, "a"));
@@ -813,7 +696,7 @@ public final class PromiseTests {
     }
 
     private static void promise32() {
-        promise = 32;
+        about = "promise 32";
         Weftpage x = new Weftpage();
         int a = piece(x, "a");
         int b = piece(x, "b");
@@ -841,7 +724,7 @@ public final class PromiseTests {
     }
 
     private static void promise33() {
-        promise = 33;
+        about = "promise 33";
         is(checkedText("abc"), "o");
         is(checkedText("<a"), "e0");
         is(checkedText("<a>"), "o");
@@ -1002,7 +885,7 @@ public final class PromiseTests {
     }
 
     private static void promise34() {
-        promise = 34;
+        about = "promise 34";
         Weftpage x = new Weftpage();
         int p = piece(x, "<a");
         int base = x.template(p);
@@ -1020,7 +903,7 @@ public final class PromiseTests {
     }
 
     private static void promise35() {
-        promise = 35;
+        about = "promise 35";
         Weftpage z = new Weftpage();
         is(z.around(z.template(piece(z, "a")), 0), 't');
         Weftpage x = new Weftpage();
@@ -1055,7 +938,7 @@ public final class PromiseTests {
     }
 
     private static void promise36() {
-        promise = 36;
+        about = "promise 36";
         Weftpage x = new Weftpage();
         int f = x.field(0);
         int filtered = x.filter('d', x.filter('u', f, 0), 0);
@@ -1087,7 +970,7 @@ public final class PromiseTests {
     // Output
 
     private static void promise37() {
-        promise = 37;
+        about = "promise 37";
         Weftpage x = new Weftpage();
         int t = x.template(piece(x, "a"));
         int bad = x.template(x.hole(x.item('k')));
@@ -1117,21 +1000,24 @@ public final class PromiseTests {
         int f = x.field(0);
         int p = piece(x, "a");
         int loop = x.loop(f, x.loop(f, x.loop(f, p, -1), -1), -1);
-        is(made(x, x.guard(loop, p)), "a".repeat(512));
+        is(x.make(x.template(x.guard(loop, p))), 'o');
+        is(ends(x), ends("a".repeat(512)));
         int guard = x.guard(x.loop(f, loop, -1), p);
         is(made(x, guard), "fault m");
         int seven = rows(x, p, p, p, p, p, p, p);
         int all600 = x.row(loop, x.choice(x.number(1), seven, -1));
-        is(made(x, all600), "a".repeat(519));
+        is(x.make(x.template(all600)), 'o');
+        is(ends(x), ends("a".repeat(519)));
         is(made(x, x.row(loop, x.row(seven, p))), "fault m");
         int failing = x.row(x.row(p, p), x.hole(x.argument()));
         int counted = x.guard(failing, p);
-        is(made(x, rows(x, loop, counted)), "a".repeat(513));
+        is(x.make(x.template(rows(x, loop, counted))), 'o');
+        is(ends(x), ends("a".repeat(513)));
         is(made(x, rows(x, loop, counted, counted)), "fault m");
     }
 
     private static void promise38() {
-        promise = 38;
+        about = "promise 38";
         Weftpage x = new Weftpage();
         is(x.comes(0), false);
         is(x.comes(0), true);
@@ -1141,7 +1027,7 @@ public final class PromiseTests {
     }
 
     private static void promise39() {
-        promise = 39;
+        about = "promise 39";
         Weftpage x = new Weftpage();
         thrown(STATE, () -> x.refresh());
         int v = x.field(0);
@@ -1282,7 +1168,7 @@ public final class PromiseTests {
     }
 
     private static void promise40() {
-        promise = 40;
+        about = "promise 40";
         Weftpage x = shown();
         is(x.length(), 4);
         x.setNumber(0, 7);
@@ -1295,7 +1181,7 @@ public final class PromiseTests {
     }
 
     private static void promise41() {
-        promise = 41;
+        about = "promise 41";
         Weftpage x = shown();
         is("" + x.letterAt(0) + x.letterAt(1) + x.letterAt(2) + x.letterAt(3), "ab42");
         thrown(INDEX, () -> x.letterAt(4));
@@ -1304,7 +1190,7 @@ public final class PromiseTests {
     }
 
     private static void promise42() {
-        promise = 42;
+        about = "promise 42";
         Weftpage x = shown();
         is(x.writerOf(0), 0);
         is(x.writerOf(1), 0);
@@ -1316,7 +1202,7 @@ public final class PromiseTests {
     }
 
     private static void promise43() {
-        promise = 43;
+        about = "promise 43";
         Weftpage x = shown();
         is(x.changes(), 0);
         x.setNumber(0, 1);
@@ -1333,7 +1219,7 @@ public final class PromiseTests {
     }
 
     private static void promise44() {
-        promise = 44;
+        about = "promise 44";
         Weftpage x = shown();
         thrown(INDEX, () -> x.changeAt(0));
         x.setNumber(0, 1);
@@ -1344,7 +1230,7 @@ public final class PromiseTests {
     }
 
     private static void promise45() {
-        promise = 45;
+        about = "promise 45";
         Weftpage x = shown();
         thrown(INDEX, () -> x.changedNode(0));
         x.setNumber(0, 1);
@@ -1355,7 +1241,7 @@ public final class PromiseTests {
     }
 
     private static void promise46() {
-        promise = 46;
+        about = "promise 46";
         Weftpage x = new Weftpage();
         int hole = x.hole(x.item('i'));
         int loop = x.loop(x.field(0), hole, -1);
@@ -1374,7 +1260,7 @@ public final class PromiseTests {
     }
 
     private static void promise47() {
-        promise = 47;
+        about = "promise 47";
         Weftpage x = new Weftpage();
         thrown(ELEMENT, () -> x.fault());
         is(made(x, x.hole(x.item('k'))), "fault i");
@@ -1386,7 +1272,7 @@ public final class PromiseTests {
     }
 
     private static void promise48() {
-        promise = 48;
+        about = "promise 48";
         Weftpage x = shown();
         is(x.written(), 4L);
         x.refresh();
@@ -1402,7 +1288,7 @@ public final class PromiseTests {
     }
 
     private static void promise49() {
-        promise = 49;
+        about = "promise 49";
         Weftpage x = shown();
         is(x.holeShare(), 0.5f);
         x.setNumber(0, 7);
@@ -1414,7 +1300,7 @@ public final class PromiseTests {
     }
 
     private static void promise50() {
-        promise = 50;
+        about = "promise 50";
         Weftpage x = shown();
         thrown(ARITHMETIC, () -> x.meanChanges());
         x.refresh();
@@ -1430,7 +1316,7 @@ public final class PromiseTests {
     }
 
     private static void promise51() {
-        promise = 51;
+        about = "promise 51";
         is(new Weftpage().isSound(), true);
         Weftpage x = shown();
         is(x.isSound(), true);
@@ -1461,7 +1347,8 @@ public final class PromiseTests {
             x.extend(i - 1);
             x.override(i, 0, chain);
         }
-        is(made2(x, 7), "o" + "a".repeat(280));
+        is(x.make(7), 'o');
+        is(ends(x), ends("o" + "a".repeat(280)));
         for (int i = 0; i < 20; i++) {
             chain = x.row(chain, a);
         }
@@ -1469,12 +1356,13 @@ public final class PromiseTests {
             x.override(i, 0, chain);
         }
         is(x.check(7), 'm');
-        is(made2(x, 4), "o" + "a".repeat(240));
+        is(x.make(4), 'o');
+        is(ends(x), ends("o" + "a".repeat(240)));
         is(x.refresh(), 'o');
         is(x.isSound(), true);
     }
 
-    public static void main(String[] args) {
+    static void all() {
         promise1(); promise2(); promise3(); promise4(); promise5(); promise6(); promise7(); promise8();
         promise9(); promise10(); promise11(); promise12(); promise13(); promise14(); promise15(); promise16();
         promise17(); promise18(); promise19(); promise20(); promise21(); promise22(); promise23(); promise24();
@@ -1482,9 +1370,10 @@ public final class PromiseTests {
         promise33(); promise34(); promise35(); promise36(); promise37(); promise38(); promise39(); promise40();
         promise41(); promise42(); promise43(); promise44(); promise45(); promise46(); promise47(); promise48();
         promise49(); promise50(); promise51();
-        System.out.println("PromiseTests: " + passed + " passed, " + failed + " failed");
-        if (failed > 0) {
-            System.exit(1);
-        }
+    }
+
+    public static void main(String[] args) {
+        all();
+        end("PromiseTests");
     }
 }
