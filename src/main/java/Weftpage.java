@@ -1684,10 +1684,10 @@ public final class Weftpage {
             }
             for (int i = 0; i < value.length; i++) {
                 char letter = value.text[i];
-                int place = LETTERS.indexOf(letter);
-                if (isPlainInAddress(letter) || place < 0) {
+                if (isPlainInAddress(letter)) {
                     trace.put(letter);
                 } else {
+                    int place = LETTERS.indexOf(letter);
                     trace.put('%');
                     trace.put((char) ('0' + place / 10));
                     trace.put((char) ('0' + place % 10));

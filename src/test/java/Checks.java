@@ -173,7 +173,9 @@ class Checks {
     static String between(String before, String text, String behind) {
         Weftpage x = new Weftpage();
         setText(x, 0, text);
-        return made(x, rows(x, piece(x, before), hole(x, 0), piece(x, behind)));
+        String all = made(x, rows(x, piece(x, before), hole(x, 0), piece(x, behind)));
+        is(x.isSound(), true);
+        return all;
     }
 
     static String inText(String text) {

@@ -519,6 +519,18 @@ public final class EdgeTests extends Checks {
             int both = x.template(x.row(x.partial(inner, f, -1), x.partial(inner, x.field(0), -1)));
             is("" + x.readers(both, 1) + x.readers(both, 0), "33");
         });
+        test("36: by arguments also in blocks and in what overrides them.", () -> {
+            Weftpage x = new Weftpage();
+            int h = x.hole(x.argument());
+            int base = x.template(x.block(0, h));
+            int one = x.extend(base);
+            x.override(one, 0, x.row(x.choice(x.argument(), x.piece(), -1), x.up()));
+            int t = x.template(x.row(x.partial(base, x.field(3), -1), x.partial(one, x.field(5), -1)));
+            is("" + x.readers(t, 0) + x.readers(t, 3) + x.readers(t, 5), "012");
+            int without = x.template(x.partial(one, -1, -1));
+            is("" + x.readers(without, 0) + x.readers(without, 3) + x.readers(without, 5), "000");
+            is("" + x.readers(one, 0), "0");
+        });
         test("36: a fill reads the arguments where the partial is called.", () -> {
             Weftpage x = new Weftpage();
             int a = x.argument();
@@ -597,6 +609,39 @@ public final class EdgeTests extends Checks {
         });
     }
 
+    private static void writers() {
+        test("42: a template's node can be what wrote: a piece, or a hole.", () -> {
+            Weftpage x = new Weftpage();
+            x.setNumber(0, 12);
+            int a = piece(x, "ab");
+            int h = hole(x, 0);
+            x.make(x.template(a));
+            is(x.writerOf(0) + " " + x.writerOf(1), a + " " + a);
+            x.make(x.template(h));
+            is(x.writerOf(0) + " " + x.writerOf(1), h + " " + h);
+        });
+        test("40 to 42: outputs of all lengths, letter by letter where they may be cut.", () -> {
+            for (int ahead = 0; ahead < 73; ahead++) {
+                Weftpage x = new Weftpage();
+                setText(x, 0, "########################");
+                int h = hole(x, 0);
+                int all = piece(x, "<a h=\"");
+                for (int i = 0; i < ahead / 24; i++) {
+                    all = x.row(all, piece(x, LONGEST));
+                }
+                all = x.row(all, piece(x, LONGEST.substring(0, ahead % 24)));
+                int end = piece(x, "\">");
+                x.make(x.template(rows(x, all, h, h, h, h, h, end)));
+                is(x.length(), 6 + ahead + 360 + 2);
+                for (int i = 0; i < 360; i += i < 9 || i > 347 ? 1 : 3) {
+                    is(x.letterAt(6 + ahead + i), "%34".charAt(i % 3));
+                }
+                is(x.writerOf(6 + ahead + 359), h);
+                is(x.writerOf(6 + ahead + 361), end);
+            }
+        });
+    }
+
     private static void changes() {
         test("43: 0 changes without a patch, behind make, and behind a refreshing that failed.", () -> {
             Weftpage x = new Weftpage();
@@ -663,6 +708,28 @@ public final class EdgeTests extends Checks {
             is("" + x.changeAt(7) + x.changeAt(8) + x.changedKey(7) + x.changedKey(8) + x.changedKey(15), "di79299");
             thrown(INDEX, () -> x.changeAt(16));
         });
+        test("43 to 46: as many changes as an output can have items, gone and new.", () -> {
+            Weftpage x = new Weftpage();
+            for (int field = 0; field < 3; field++) {
+                eight(x, field);
+            }
+            int inner = x.loop(x.field(2), x.piece(), -1);
+            x.make(x.template(x.loop(x.field(0), x.loop(x.field(1), inner, -1), -1)));
+            x.setList(2);
+            for (int key = 8; key < 16; key++) {
+                x.addItem(2, key, 0);
+            }
+            x.refresh();
+            is(x.changes(), 1024);
+            is(x.meanChanges(), 1024.0);
+            for (int index = 0; index < 1024; index += index < 32 || index > 1000 ? 1 : 16) {
+                is(x.changeAt(index), index % 16 < 8 ? 'd' : 'i');
+                is(x.changedKey(index), index % 16);
+                is(x.changedNode(index), inner);
+            }
+            thrown(INDEX, () -> x.changeAt(1024));
+            is(x.isSound(), true);
+        });
         test("47: each fault; none behind a make that is there; the last one of several.", () -> {
             Weftpage x = new Weftpage();
             int none = x.template(x.piece());
@@ -724,6 +791,21 @@ public final class EdgeTests extends Checks {
             x.refresh();
             is(x.holeShare(), 2.0f / 6.0f);
         });
+        test("49: holeShare of a single letter, and of an output that is smaller than the one ahead.", () -> {
+            Weftpage x = new Weftpage();
+            x.setNumber(0, 5);
+            int h = hole(x, 0);
+            int a = piece(x, "a");
+            int single = x.template(h);
+            int both = x.template(x.row(h, a));
+            int without = x.template(a);
+            x.make(single);
+            is(x.holeShare(), 1.0f);
+            x.make(both);
+            is(x.holeShare(), 0.5f);
+            x.make(without);
+            is(x.holeShare(), 0.0f);
+        });
         test("50: meanChanges of one patch without changes, of several, and of none that failed.", () -> {
             Weftpage x = shown("a");
             x.refresh();
@@ -782,6 +864,7 @@ public final class EdgeTests extends Checks {
         templates();
         surroundings();
         outputs();
+        writers();
         changes();
         sums();
     }

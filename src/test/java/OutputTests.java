@@ -164,6 +164,55 @@ public final class OutputTests extends Checks {
         });
     }
 
+    /** The eighth template calls up seven times, and all its nodes stand in one another; the node 2 is the innermost. */
+    private static Weftpage nested(int around, int each) {
+        Weftpage x = new Weftpage();
+        int yes = x.number(1);
+        x.hole(x.field(0));
+        int node = x.block(0, 2);
+        for (int i = 0; i < around; i++) {
+            node = x.choice(yes, node, -1);
+        }
+        x.template(node);
+        int chain = x.up();
+        for (int i = 0; i < each; i++) {
+            chain = x.choice(yes, chain, -1);
+        }
+        for (int i = 1; i < 8; i++) {
+            x.extend(i - 1);
+            x.override(i, 0, chain);
+        }
+        return x;
+    }
+
+    private static void deepest() {
+        test("'m': 600 nodes that stand in one another are not too many, the 601st is.", () -> {
+            Weftpage x = nested(3, 84);
+            is(checked(x, 7), "o");
+            x.setNumber(0, 12);
+            is(made2(x, 7), "12");
+            is(x.writerOf(1), 2);
+            x.setNumber(0, 3);
+            is(patch(x), "r2");
+            is(text(x), "3");
+            is(x.readers(7, 0), 1);
+            is(x.around(7, 2), 't');
+            is(checked(nested(4, 84), 7), "m2");
+        });
+        test("The 600th node that is done can be one that writes, and one that is changed.", () -> {
+            Weftpage x = new Weftpage();
+            int h = hole(x, 0);
+            x.setNumber(0, 77);
+            x.make(x.template(x.choice(x.number(1), x.row(padded(x, x.piece(), 1, 597), h), -1)));
+            is(x.length(), 2);
+            is(x.writerOf(1), h);
+            is(x.holeShare(), 1.0f);
+            x.setNumber(0, 8);
+            is(patch(x), "r" + h);
+            is(text(x), "8");
+        });
+    }
+
     // What is there of an output
 
     private static void presence() {
@@ -188,6 +237,18 @@ public final class OutputTests extends Checks {
             is(made(x, x.guard(bad, x.row(b, bad))), "fault a");
             is(made(x, x.guard(x.guard(bad, bad), b)), "b");
             is(made(x, rows(x, a, x.guard(bad, x.guard(bad, b)), a)), "aba");
+        });
+        test("A guard's second node begins where the guard does, wherever the first one failed.", () -> {
+            String[] ahead = {"<a b=\"", "<a h=\"", "<s>"};
+            String[] behind = {"\">", "\">", "</s>"};
+            for (int i = 0; i < 3; i++) {
+                Weftpage x = new Weftpage();
+                setText(x, 0, "<\"&");
+                int held = hole(x, 0);
+                int first = rows(x, piece(x, ahead[i]), x.hole(x.argument()), piece(x, behind[i]));
+                is(made(x, x.guard(first, held)), "&l\"&a");
+                is(x.isSound(), true);
+            }
         });
         test("A guard's fault in an item, in a partial, in a fill and in a block.", () -> {
             Weftpage x = new Weftpage();
@@ -288,6 +349,33 @@ public final class OutputTests extends Checks {
             is(patch(x), "r" + second);
             x.clear(0);
             is(patch(x), "r" + guard);
+        });
+        test("A guard that stays with its second node is compared in it, whatever the first one did.", () -> {
+            Weftpage x = new Weftpage();
+            int p = piece(x, "p");
+            int h = hole(x, 0);
+            int loop = x.loop(x.field(1), rows(x, p, h, p), -1);
+            x.setList(1);
+            x.addItem(1, 3, 0);
+            int first = rows(x, p, loop, p, h, x.hole(x.argument()), p);
+            int guard = x.guard(first, rows(x, h, p, h));
+            x.make(x.template(x.row(guard, h)));
+            is(text(x), "p");
+            x.setNumber(0, 5);
+            is(patch(x), "r" + h + " r" + h + " r" + h);
+            x.addItem(1, 4, 0);
+            is(patch(x), "");
+            is(text(x), "5p55");
+            Weftpage y = new Weftpage();
+            int bad = y.hole(y.argument());
+            int held = hole(y, 1);
+            y.make(y.template(y.row(y.guard(y.choice(y.field(0), bad, y.row(bad, bad)), held), held)));
+            y.setNumber(0, 1);
+            is(patch(y), "");
+            y.setNumber(1, 1);
+            is(patch(y), "r" + held + " r" + held);
+            y.setNumber(0, 0);
+            is(patch(y), "");
         });
         test("A loop that had items and has none, or the other way round: one change; from nothing to an empty list none.", () -> {
             Weftpage x = new Weftpage();
@@ -410,6 +498,40 @@ public final class OutputTests extends Checks {
             is(moved("12345678", "87654321"), "m7 m6 m5 m4 m3 m2 m1");
             is(moved("12345678", "56781234"), "m1 m2 m3 m4");
         });
+        test("The fewest, of each of several patches one behind the other.", () -> {
+            Weftpage x = new Weftpage();
+            int loop = x.loop(x.field(0), x.hole(x.item('k')), -1);
+            x.template(loop);
+            keys(x, "12345678");
+            x.make(0);
+            String[] orders = {"12345678", "87654321", "78654321", "12", "21", "213", "32145678", "32145678", "45678321"};
+            String[] due = {"", "m7 m6 m5 m4 m3 m2 m1", "m8", "d7 d8 d6 d5 d4 d3 m2", "m1", "i3", "m3 i4 i5 i6 i7 i8", "", "m3 m2 m1"};
+            for (int i = 0; i < orders.length; i++) {
+                keys(x, orders[i]);
+                is(patch(x).replace(loop + ",", ""), due[i]);
+                is(text(x), orders[i]);
+            }
+        });
+        test("'d' is of the loop's own items: the same key in another loop behind it does not count.", () -> {
+            Weftpage x = new Weftpage();
+            int p = piece(x, "p");
+            int one = x.loop(x.field(0), p, -1);
+            int two = x.loop(x.field(1), p, -1);
+            x.template(x.row(one, two));
+            keys(x, "123");
+            x.setList(1);
+            x.addItem(1, 5, 0);
+            x.addItem(1, 6, 0);
+            x.addItem(1, 7, 0);
+            x.make(0);
+            is(patch(x), "");
+            keys(x, "12");
+            x.addItem(1, 3, 0);
+            is(patch(x), "d" + one + ",3 i" + two + ",3");
+            keys(x, "312");
+            x.takeItem(1, 3);
+            is(patch(x), "i" + one + ",3 d" + two + ",3");
+        });
         test("All three at once, and a change within one that stays or is moved, behind its 'm'.", () -> {
             is(moved("1234", "4516"), "d2 d3 i5 m1 i6");
             Weftpage x = new Weftpage();
@@ -505,6 +627,7 @@ public final class OutputTests extends Checks {
     static void all() {
         checkedCounts();
         doneCounts();
+        deepest();
         presence();
         replaced();
         listed();

@@ -18,7 +18,8 @@ public final class RandomRuns {
     private static final String[] PIECES = {"a", "", "b c", "<b>", "</b>", "<a h=\"", "\">", "<p c=\"", "<s>", "</s>", "<", ">", "\"", "/", "<s", "h=\"", "<<", "&:"};
     private static final String[] TEXTS = {"", "a", "j:a", "j:", "a<b>&\"c\"", "/a b:c#", "=", "<<", "\"", "hello you", "J"};
 
-    private static int failures;
+    private static final int CALLS = 512;
+
     static final Map<String, Integer> SEEN = new HashMap<>();
 
     private final Random random;
@@ -59,7 +60,11 @@ public final class RandomRuns {
         }
     }
 
+    /** Answers null if the call was refused, or is one more than an object is used for. */
     private Object call(String name, Object... args) {
+        if (log.size() >= CALLS) {
+            return null;
+        }
         Object got = answer(page, OF_PAGE.get(name), args);
         Object due = answer(model, OF_MODEL.get(name), args);
         log.add(name + Arrays.toString(args) + " -> " + due);
@@ -445,8 +450,8 @@ public final class RandomRuns {
         call("check", t);
         call("wrong", t);
         if (chance(30)) {
-            for (int i = 0; i <= values.size() + parts.size(); i++) {
-                call("around", t, i);
+            for (int i = 0; i < 8; i++) {
+                call("around", t, chance(85) ? near(parts) : pick(values.size() + parts.size() + 2) - 1);
             }
             for (int f = -1; f <= 6; f++) {
                 call("readers", t, f);
@@ -456,15 +461,17 @@ public final class RandomRuns {
 
     private void askOutput() {
         Object length = call("length");
-        int n = length == null ? 1 : (Integer) length;
-        for (int i = -1; i <= n; i++) {
-            call("letterAt", i);
+        int n = length == null ? 0 : (Integer) length;
+        call("letterAt", chance(50) ? -1 : n);
+        call("writerOf", chance(50) ? -1 : n);
+        for (int i = 0; i < Math.min(n, 6); i++) {
+            int place = n <= 6 ? i : pick(n);
+            call("letterAt", place);
+            call("writerOf", place);
         }
-        for (int i = 0; i < 4; i++) {
-            call("writerOf", pick(n + 2) - 1);
-        }
-        Object changes = call("changes");
-        for (int i = -1; i <= (Integer) changes; i++) {
+        Object size = call("changes");
+        int changes = size == null ? 0 : (Integer) size;
+        for (int i = chance(20) ? -1 : 0; i < changes + (chance(20) ? 1 : 0); i++) {
             call("changeAt", i);
             call("changedNode", i);
             call("changedKey", i);
@@ -532,9 +539,20 @@ public final class RandomRuns {
         askOutput();
     }
 
-    public static void main(String[] args) {
-        int runs = args.length > 0 ? Integer.parseInt(args[0]) : 2000;
-        long first = args.length > 1 ? Long.parseLong(args[1]) : 1;
+    private void showLog(long seed) {
+        System.out.println("run of seed " + seed + ":");
+        int from = Math.max(0, log.size() - 400);
+        for (String line : log.subList(from, log.size())) {
+            System.out.println("  " + line);
+            if (line.startsWith("   BUT")) {
+                break;
+            }
+        }
+    }
+
+    /** Makes so many runs; answers how many of them failed. */
+    static int count(int runs, long first) {
+        int failures = 0;
         for (long seed = first; seed < first + runs; seed++) {
             RandomRuns run = new RandomRuns(seed);
             if (seed % 3 == 0) {
@@ -545,17 +563,17 @@ public final class RandomRuns {
             if (run.failed) {
                 failures++;
                 if (failures <= 3) {
-                    System.out.println("run of seed " + seed + ":");
-                    int from = Math.max(0, run.log.size() - 400);
-                    for (String line : run.log.subList(from, run.log.size())) {
-                        System.out.println("  " + line);
-                        if (line.startsWith("   BUT")) {
-                            break;
-                        }
-                    }
+                    run.showLog(seed);
                 }
             }
         }
+        return failures;
+    }
+
+    public static void main(String[] args) {
+        int runs = args.length > 0 ? Integer.parseInt(args[0]) : 2000;
+        long first = args.length > 1 ? Long.parseLong(args[1]) : 1;
+        int failures = count(runs, first);
         if (args.length > 2) {
             SEEN.forEach((k, v) -> System.out.println(k + ": " + v));
         }

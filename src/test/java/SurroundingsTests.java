@@ -148,6 +148,18 @@ public final class SurroundingsTests extends Checks {
             is(inText("j:"), "j:");
             is(inQuotes("j:"), "j:");
         });
+        test("Writing, in 'u': a text does not begin with what the one ahead had.", () -> {
+            Weftpage x = new Weftpage();
+            setText(x, 0, "j:a");
+            setText(x, 1, "j");
+            setText(x, 2, "");
+            x.setText(3);
+            int all = piece(x, "<a h=\"");
+            for (int field = 0; field < 4; field++) {
+                all = rows(x, all, hole(x, field), piece(x, "\"h\""));
+            }
+            is(made(x, x.row(all, piece(x, "\">"))), "<a h=\"#\"h\"j\"h\"\"h\"\"h\"\">");
+        });
         test("Writing, in 'u': '%' and the letter's place, as two digits, for each letter but these.", () -> {
             String[] coded = {" 26", "<27", ">28", "=30", "\"31", "&32", "#34"};
             String rest = LETTERS;
@@ -323,6 +335,59 @@ public final class SurroundingsTests extends Checks {
             x.override(one, 1, block);
             is(checked(x, one), "r" + block);
             is(x.around(one, named), 't');
+        });
+        test("'r': those that ended are not counted, the next ones are.", () -> {
+            Weftpage x = new Weftpage();
+            int box = x.template(x.slot());
+            int p = x.piece();
+            int alone = x.partial(box, -1, p);
+            int twice = x.partial(box, -1, alone);
+            is(checked(x, x.template(rows(x, p, twice))), "r" + alone);
+            is(checked(x, x.template(rows(x, alone, alone, p, twice))), "r" + alone);
+            is(checked(x, x.template(rows(x, alone, p, alone, p, alone))), "o");
+            int other = x.template(x.slot());
+            int inside = x.partial(other, -1, alone);
+            is(checked(x, x.template(rows(x, inside, inside, x.partial(other, -1, inside)))), "r" + inside);
+        });
+        test("'r' by an override of the eighth template, of each name.", () -> {
+            for (int name = 0; name < 4; name++) {
+                Weftpage x = new Weftpage();
+                int block = x.block(name, x.piece());
+                x.template(block);
+                for (int i = 1; i < 8; i++) {
+                    x.extend(i - 1);
+                }
+                x.override(7, name, x.row(x.up(), block));
+                is(checked(x, 7), "r" + block);
+                is(checked(x, 6), "o");
+            }
+        });
+        test("'r' is of the same override alone: others in it are not counted.", () -> {
+            for (int outer = 0; outer < 4; outer++) {
+                for (int low = 1; low < 7; low++) {
+                    Weftpage x = new Weftpage();
+                    int[] blocks = new int[4];
+                    int all = x.piece();
+                    for (int name = 0; name < 4; name++) {
+                        blocks[name] = x.block(name, x.piece());
+                        all = x.row(all, blocks[name]);
+                    }
+                    x.template(all);
+                    for (int i = 1; i < 8; i++) {
+                        x.extend(i - 1);
+                    }
+                    int others = x.up();
+                    for (int name = 0; name < 4; name++) {
+                        if (name != outer) {
+                            x.override(low, name, x.piece());
+                            others = x.row(others, blocks[name]);
+                        }
+                    }
+                    x.override(7, outer, others);
+                    x.override(low, outer, x.piece());
+                    is(checked(x, 7), "o");
+                }
+            }
         });
         test("'r' is told at once: nothing of the partial or of the block is gone through.", () -> {
             Weftpage x = new Weftpage();

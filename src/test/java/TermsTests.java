@@ -571,6 +571,22 @@ public final class TermsTests extends Checks {
             is(made2(x, 2), "b");
             is(made2(x, 0), "a");
         });
+        test("Calling up in a loop of an override's node goes on with the one below, for each item.", () -> {
+            Weftpage x = new Weftpage();
+            int up = x.up();
+            list(x, 0, 1, 2);
+            x.template(x.block(3, piece(x, "o")));
+            x.extend(0);
+            x.extend(1);
+            x.extend(2);
+            int loop = x.loop(x.field(0), x.row(x.hole(x.item('k')), up), -1);
+            x.override(1, 3, x.row(piece(x, "a"), up));
+            x.override(2, 3, x.row(piece(x, "b"), up));
+            x.override(3, 3, x.row(piece(x, "c"), loop));
+            is(made2(x, 3), "c1bao2bao");
+            x.override(2, 3, loop);
+            is(made2(x, 3), "c" + "11ao2ao" + "21ao2ao");
+        });
         test("Calling up in a fill of an override's node is of that override.", () -> {
             Weftpage x = new Weftpage();
             int base = x.template(x.block(0, piece(x, "a")));
