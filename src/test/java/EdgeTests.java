@@ -440,6 +440,24 @@ public final class EdgeTests extends Checks {
             x.row(0, 98);
             is(checked(x, x.template(99)), "g98");
         });
+        test("34: of 'e' the template's own node, be it the node 99, or that of the lowest one that it extends.", () -> {
+            Weftpage x = new Weftpage();
+            int open = piece(x, "<a");
+            fill(x, 99);
+            x.row(open, open);
+            x.template(99);
+            x.template(x.nodes() - 2);
+            is(checked(x, 0), "e99");
+            x.extend(0);
+            is(checked(x, x.extend(2)), "e99");
+            Weftpage y = new Weftpage();
+            int block = y.block(0, y.piece());
+            int root = y.row(y.piece(), block);
+            int one = y.extend(y.template(root));
+            y.override(one, 0, piece(y, "<s>"));
+            is(checked(y, one), "e" + root);
+            is(checked(y, y.extend(one)), "e" + root);
+        });
     }
 
     private static void surroundings() {

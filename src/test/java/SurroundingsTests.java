@@ -309,6 +309,12 @@ public final class SurroundingsTests extends Checks {
             x.override(one, 0, x.row(ofBase, ofBase));
             is(checked(x, one), "o");
             is(checked(x, x.template(x.row(ofBase, ofBase))), "o");
+            int ofOne = x.partial(one, -1, -1);
+            is(checked(x, x.template(rows(x, ofOne, ofBase, ofOne))), "o");
+            int top = x.extend(one);
+            x.override(top, 0, x.row(ofOne, x.up()));
+            is(checked(x, top), "o");
+            is(checked(x, x.template(x.partial(top, -1, -1))), "o");
         });
         test("'r': the one around a slot counted in its fill.", () -> {
             Weftpage x = new Weftpage();

@@ -659,6 +659,17 @@ public final class TermsTests extends Checks {
             is(made(x, x.partial(own, -1, -1)), "3");
             is(made(x, x.loop(x.field(0), x.row(x.partial(own, -1, -1), item), -1)), "33");
         });
+        test("In a block, the argument and the slot of the partial that it stands in, also in what overrides it.", () -> {
+            Weftpage x = new Weftpage();
+            int own = x.row(x.hole(x.argument()), x.slot());
+            int base = x.template(x.block(0, own));
+            int one = x.extend(base);
+            x.override(one, 0, rows(x, x.slot(), x.hole(x.argument()), x.up()));
+            int f = piece(x, "f");
+            is(made(x, x.partial(base, x.number(4), f)), "4f");
+            is(made(x, x.partial(one, x.number(5), f)), "f55f");
+            is(made(x, x.row(x.partial(one, -1, f), x.partial(one, x.number(6), -1))), "ff66");
+        });
         test("In a block, the items where it stands, also of its override and of what that calls up.", () -> {
             Weftpage x = new Weftpage();
             list(x, 0, 3, 4);
