@@ -447,6 +447,26 @@ public final class RefusalTests extends Checks {
         test("later: IndexOutOfBoundsException if there is no such node" + when, () -> refuseAsPart(made, (x, p) -> x.later(3, p)));
     }
 
+    private static void emptyBook() {
+        test("each call that takes a node or a template: IndexOutOfBoundsException on a new object", () -> {
+            Refused[] calls = {x -> x.filter('l', 0, 0), x -> x.hole(0), x -> x.row(0, 0), x -> x.choice(0, 0, 0), x -> x.choice(0, 0, -1),
+                x -> x.loop(0, 0, 0), x -> x.loop(0, 0, -1), x -> x.partial(0, -1, -1), x -> x.partial(0, 0, 0), x -> x.block(0, 0),
+                x -> x.guard(0, 0), x -> x.later(0, 0), x -> x.template(0), x -> x.extend(0), x -> x.override(0, 0, 0), x -> x.check(0),
+                x -> x.wrong(0), x -> x.around(0, 0), x -> x.readers(0, 0), x -> x.make(0)};
+            for (Refused call : calls) {
+                refuse(INDEX, Weftpage::new, call);
+            }
+        });
+        test("each call that takes a node: IndexOutOfBoundsException for the node that it would make", () -> {
+            Refused[] calls = {x -> x.filter('l', x.nodes(), 0), x -> x.hole(x.nodes()), x -> x.row(x.nodes(), PART), x -> x.row(PART, x.nodes()),
+                x -> x.choice(x.nodes(), PART, PART), x -> x.loop(VALUE, x.nodes(), PART), x -> x.partial(RIGHT, x.nodes(), -1),
+                x -> x.partial(RIGHT, -1, x.nodes()), x -> x.block(0, x.nodes()), x -> x.guard(x.nodes(), x.nodes()), x -> x.later(0, x.nodes())};
+            for (Refused call : calls) {
+                refuse(INDEX, RefusalTests::rich, call);
+            }
+        });
+    }
+
     private static void fullBranches() {
         test("row: IllegalStateException if there are 100 nodes", () -> refuseFull(x -> x.row(PART, PART)));
         test("choice: IllegalStateException if there are 100 nodes", () -> refuseFull(x -> x.choice(VALUE, PART, -1)));
@@ -633,6 +653,7 @@ public final class RefusalTests extends Checks {
         leaves();
         branches(RefusalTests::rich, "");
         branches(RefusalTests::withFullNodes, ", ahead of 100 nodes");
+        emptyBook();
         fullBranches();
         names();
         templates();
