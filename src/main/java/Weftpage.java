@@ -1582,7 +1582,10 @@ public final class Weftpage {
                 count++;
                 n = book.nodeAt(n.value);
             }
-            char fault = n == null ? 't' : read(n, scope);
+            if (n == null) {
+                return 't';
+            }
+            char fault = n.kind == Node.ITEM ? readItem((char) n.n, scope) : read(n, scope);
             for (int i = count - 1; i >= 0 && fault == NO; i--) {
                 Node filter = filters[i];
                 fault = filter != null && value.pass((char) filter.first, filter.n) ? NO : 't';
@@ -1598,8 +1601,6 @@ public final class Weftpage {
                     }
                     value.become(fields[n.n]);
                     return NO;
-                case Node.ITEM:
-                    return readItem((char) n.n, scope);
                 case Node.ARGUMENT:
                     if (scope.argument == null) {
                         return 'a';
